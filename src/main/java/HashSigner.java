@@ -240,7 +240,6 @@ public final class HashSigner {
         int tree = points.treeNumber();
         int u = points.leafNumber();
         int at = theShape.n;
-        ledRow.clear();
         fewTrees.lead(points, signature, at, ledRow);
         at += theShape.fewSize();
         for (int layer = 0; layer < theShape.layers; layer++) {
@@ -439,7 +438,6 @@ public final class HashSigner {
 
         private final long[] a = new long[25];
         private final long[] b = new long[25];
-        private final long[] c = new long[5];
 
         void digest(Row in, Row out) {
             in.addNumber(31, 1);
@@ -451,7 +449,8 @@ public final class HashSigner {
             for (int at = 0; at + BLOCK <= in.length; at += BLOCK) {
                 absorb(in.bytes, at);
                 for (int i = 0; i < 24; i++) {
-                    round(ROUND_WORDS[i]);
+                    mixColumns();
+                    turnAndMixRows(ROUND_WORDS[i]);
                 }
             }
             out.clear();
@@ -466,25 +465,42 @@ public final class HashSigner {
             }
         }
 
-        private void round(long word) {
-            for (int x = 0; x < 5; x++) {
-                c[x] = a[x] ^ a[x + 5] ^ a[x + 10] ^ a[x + 15] ^ a[x + 20];
+        private void mixColumns() {
+            long c0 = a[0] ^ a[5] ^ a[10] ^ a[15] ^ a[20];
+            long c1 = a[1] ^ a[6] ^ a[11] ^ a[16] ^ a[21];
+            long c2 = a[2] ^ a[7] ^ a[12] ^ a[17] ^ a[22];
+            long c3 = a[3] ^ a[8] ^ a[13] ^ a[18] ^ a[23];
+            long c4 = a[4] ^ a[9] ^ a[14] ^ a[19] ^ a[24];
+            long d0 = c4 ^ (c1 << 1 | c1 >>> 63);
+            long d1 = c0 ^ (c2 << 1 | c2 >>> 63);
+            long d2 = c1 ^ (c3 << 1 | c3 >>> 63);
+            long d3 = c2 ^ (c4 << 1 | c4 >>> 63);
+            long d4 = c3 ^ (c0 << 1 | c0 >>> 63);
+            for (int y = 0; y < 25; y += 5) {
+                a[y] ^= d0;
+                a[y + 1] ^= d1;
+                a[y + 2] ^= d2;
+                a[y + 3] ^= d3;
+                a[y + 4] ^= d4;
             }
-            for (int x = 0; x < 5; x++) {
-                long next = c[(x + 1) % 5];
-                long d = c[(x + 4) % 5] ^ (next << 1 | next >>> 63);
-                for (int i = x; i < 25; i += 5) {
-                    a[i] ^= d;
-                }
-            }
+        }
+
+        private void turnAndMixRows(long word) {
             for (int i = 0; i < 25; i++) {
                 // A turn by 0 shifts right by 64, which Java takes as 0: the word stays as it is.
                 b[TARGETS[i]] = a[i] << TURNS[i] | a[i] >>> (64 - TURNS[i]);
             }
             for (int y = 0; y < 25; y += 5) {
-                for (int x = 0; x < 5; x++) {
-                    a[y + x] = b[y + x] ^ ~b[y + (x + 1) % 5] & b[y + (x + 2) % 5];
-                }
+                long b0 = b[y];
+                long b1 = b[y + 1];
+                long b2 = b[y + 2];
+                long b3 = b[y + 3];
+                long b4 = b[y + 4];
+                a[y] = b0 ^ ~b1 & b2;
+                a[y + 1] = b1 ^ ~b2 & b3;
+                a[y + 2] = b2 ^ ~b3 & b4;
+                a[y + 3] = b3 ^ ~b4 & b0;
+                a[y + 4] = b4 ^ ~b0 & b1;
             }
             a[0] ^= word;
         }

@@ -97,10 +97,11 @@ final class Help {
         return numbers.toString();
     }
 
-    static byte[] signature(HashSigner x) {
-        byte[] bytes = new byte[x.told(1)];
+    /** A slice of THE SIGNATURE: few enough bytes to stay below an object's 512 calls. */
+    static byte[] signatureSlice(HashSigner x, int from, int to) {
+        byte[] bytes = new byte[to - from];
         for (int i = 0; i < bytes.length; i++) {
-            bytes[i] = (byte) x.signed(i);
+            bytes[i] = (byte) x.signed(from + i);
         }
         return bytes;
     }
