@@ -1,9 +1,37 @@
 import java.security.MessageDigest;
 import java.security.NoSuchAlgorithmException;
+import java.util.HexFormat;
+import java.util.Set;
+import java.util.TreeSet;
+import java.util.function.IntUnaryOperator;
 
 /** What several tests do with an object. */
 final class Help {
+    /** The edges of all numbers, and numbers that are near to an edge when only their low bits are looked at. */
+    private static final int[] FAR = {
+        Integer.MIN_VALUE, Integer.MIN_VALUE + 1, Integer.MAX_VALUE, Integer.MAX_VALUE - 1, -256, 256, -65536, 65536,
+        1 << 24, 1 << 30,
+    };
+    /** Above the most bytes that any row has. */
+    private static final int ROW_END = 2000;
+
     private Help() {
+    }
+
+    /** Numbers that are not from least to most: those beside them, far ones, and such as look like them in few bits. */
+    static Set<Integer> outside(int least, int most) {
+        Set<Integer> all = new TreeSet<>();
+        for (int i = 1; i <= 3; i++) {
+            all.add(least - i);
+            all.add(most + i);
+        }
+        for (int far : FAR) {
+            all.add(far);
+            all.add(least + far);
+            all.add(most + far);
+        }
+        all.removeIf(number -> number >= least && number <= most);
+        return all;
     }
 
     /** The text of so many bytes that the known answers were made of. */
@@ -29,7 +57,10 @@ final class Help {
     }
 
     static int shape(HashSigner x, String six) {
-        int[] s = numbers(six);
+        return shape(x, numbers(six));
+    }
+
+    static int shape(HashSigner x, int[] s) {
         return x.shape(s[0], s[1], s[2], s[3], s[4], s[5]);
     }
 
@@ -45,8 +76,12 @@ final class Help {
     static void seeds(HashSigner x, String threeHex) {
         String[] parts = threeHex.split(" ");
         for (int i = 0; i < 3; i++) {
-            x.seed(i, high(parts[i]), low(parts[i]));
+            seed(x, i, parts[i]);
         }
+    }
+
+    static int seed(HashSigner x, int which, String hex) {
+        return x.seed(which, high(hex), low(hex));
     }
 
     static long high(String hex) {
@@ -57,44 +92,60 @@ final class Help {
         return Long.parseUnsignedLong(hex.substring(16, 32), 16);
     }
 
-    static String hashed(HashSigner x) {
+    /** A row as hex digits, up to the first byte that is not there: one call for each byte and one for the end. */
+    static String row(IntUnaryOperator byteAt) {
         StringBuilder hex = new StringBuilder();
-        for (int i = 0; x.hashByte(i) != HashSigner.NONE; i++) {
-            hex.append(twoDigits(x.hashByte(i)));
+        int b = byteAt.applyAsInt(0);
+        for (int i = 1; b != HashSigner.NONE && i < ROW_END; i++) {
+            hex.append(twoDigits(b));
+            b = byteAt.applyAsInt(i);
         }
         return hex.toString();
+    }
+
+    static String hashed(HashSigner x) {
+        return row(x::hashByte);
     }
 
     static String root(HashSigner x) {
-        StringBuilder hex = new StringBuilder();
-        for (int i = 0; x.root(i) != HashSigner.NONE; i++) {
-            hex.append(twoDigits(x.root(i)));
-        }
-        return hex.toString();
+        return row(x::root);
+    }
+
+    /** THE SIGNATURE, where it is short enough for an object's 512 calls. */
+    static String signature(HashSigner x) {
+        return row(x::signed);
     }
 
     static String led(HashSigner x) {
-        StringBuilder hex = new StringBuilder();
-        for (int i = 0; x.ledTo(i) != HashSigner.NONE; i++) {
-            hex.append(twoDigits(x.ledTo(i)));
-        }
-        return hex.toString();
+        return row(x::ledTo);
     }
 
     static String leaf(HashSigner x, int layer, int tree, int u) {
-        StringBuilder hex = new StringBuilder();
-        for (int i = 0; x.leaf(layer, tree, u, i) != HashSigner.NONE; i++) {
-            hex.append(twoDigits(x.leaf(layer, tree, u, i)));
-        }
-        return hex.toString();
+        return row(i -> x.leaf(layer, tree, u, i));
     }
 
     static String index(HashSigner x) {
         StringBuilder numbers = new StringBuilder();
-        for (int i = 0; x.index(i) != HashSigner.NONE; i++) {
-            numbers.append(i == 0 ? "" : " ").append(x.index(i));
+        int number = x.index(0);
+        for (int i = 1; number != HashSigner.NONE && i < ROW_END; i++) {
+            numbers.append(i == 1 ? "" : " ").append(number);
+            number = x.index(i);
         }
         return numbers.toString();
+    }
+
+    /** All that can be seen of an object, and then what comes of the tape and the seeds, which can't be seen. */
+    static String picture(HashSigner x) {
+        StringBuilder all = new StringBuilder();
+        for (int i = 0; i < 6; i++) {
+            all.append(x.told(i)).append(' ');
+        }
+        all.append(hashed(x)).append(' ').append(root(x)).append(' ').append(signature(x)).append(' ');
+        all.append(led(x)).append(' ').append(index(x)).append(' ').append(leaf(x, 0, 0, 1)).append(' ');
+        all.append(x.hash(0)).append(hashed(x)).append(' ');
+        all.append(x.key()).append(root(x)).append(' ');
+        all.append(x.sign()).append(signature(x)).append(' ');
+        return all.append(x.verify()).append(led(x)).toString();
     }
 
     /** A slice of THE SIGNATURE: few enough bytes to stay below an object's 512 calls. */
@@ -106,16 +157,13 @@ final class Help {
         return bytes;
     }
 
+    /** What is no byte is shown as it is, so that it differs from any byte. */
     static String twoDigits(int b) {
-        return String.format("%02x", b);
+        return b >= 0 && b <= 255 ? HexFormat.of().toHexDigits((byte) b) : "<" + b + ">";
     }
 
     static String hex(byte[] bytes) {
-        StringBuilder hex = new StringBuilder();
-        for (byte b : bytes) {
-            hex.append(twoDigits(b & 255));
-        }
-        return hex.toString();
+        return HexFormat.of().formatHex(bytes);
     }
 
     static byte[] sha256(byte[] bytes) {

@@ -1,21 +1,37 @@
+import java.util.List;
+import java.util.Set;
+
 /** Promises 6 to 9 and 18: the shape, the seeds, the key, its root, the leaves. */
 public final class KeyTest {
     private static final String SEEDS =
         "00112233445566778899aabbccddeeff 0f1e2d3c4b5a69788796a5b4c3d2e1f0 fedcba98765432100123456789abcdef";
 
+    private static final int[] SIZES = {4, 8, 12, 16};
+
     private final Due due = new Due();
 
     public static void main(String[] args) {
         KeyTest test = new KeyTest();
-        test.sizes();
-        test.shapeRefuses();
-        test.shapeTakesKeyAndSignature();
-        test.seedRefuses();
+        test.shapeTellsTheSize();
+        test.shapeOutside();
+        test.shapeOutsideInSeveralNumbers();
+        test.noKeyBehindShape();
+        test.noSignatureBehindShape();
+        test.seedOutsideWhich();
+        test.noKeyBehindSeed();
         test.seedTakesTheKeyAlone();
-        test.seedKeepsAllItsBytes();
         test.everySeedHasItsPart();
-        test.keyAndRoot();
-        test.leafRefuses();
+        test.everyByteOfASeedHasItsPlace();
+        test.keyIsMade();
+        test.keyAgain();
+        test.keyLeavesTheRest();
+        test.rootNone();
+        test.rootWithoutKey();
+        test.leafOutsideLayer();
+        test.leafOutsideTree();
+        test.leafOutsideU();
+        test.leafNone();
+        test.leafOutsideAheadOfNone();
         test.leafNeedsNoKey();
         test.leavesFollowShapeAndSeeds();
         test.rootOfLeaves();
@@ -32,8 +48,9 @@ public final class KeyTest {
         return x;
     }
 
-    private void sizes() {
-        for (int n = 4; n <= 16; n += 4) {
+    /** Promise 6: "how many bytes a SIGNATURE has". */
+    private void shapeTellsTheSize() {
+        for (int n : SIZES) {
             HashSigner x = new HashSigner();
             int len = 2 * n + (n < 12 ? 2 : 3);
             for (int other = 0; other < 12; other++) {
@@ -51,51 +68,101 @@ public final class KeyTest {
                 due.is("verify() of " + n + ", " + other, x.verify(), 1);
             }
         }
+        due.is("the fewest bytes", new HashSigner().shape(0, 4, 1, 1, 1, 1), 56);
         due.is("the most bytes", new HashSigner().shape(0, 16, 2, 2, 4, 6), 1680);
     }
 
-    private void shapeRefuses() {
+    /** Promise 6: "OUTSIDE": each of the six numbers by itself, the others being right. */
+    private void shapeOutside() {
+        int[][] ranges = {{0, 1}, {4, 16}, {1, 2}, {1, 2}, {1, 4}, {1, 6}};
+        for (int place = 0; place < 6; place++) {
+            HashSigner x = signedOne();
+            Set<Integer> wrong = Help.outside(ranges[place][0], ranges[place][1]);
+            if (place == 1) {
+                wrong.addAll(List.of(5, 6, 7, 9, 10, 11, 13, 14, 15));
+            }
+            for (int number : wrong) {
+                int[] six = {0, 16, 1, 1, 4, 6};
+                six[place] = number;
+                due.is("number " + place + " of shape is " + number, Help.shape(x, six), HashSigner.OUTSIDE);
+            }
+            due.is("refused shapes leave the KEY", x.told(5), 1);
+            due.is("refused shapes leave THE SHAPE", x.told(2), 392);
+            due.is("refused shapes leave THE SIGNATURE", x.told(1), 392);
+            due.is("refused shapes leave it right", x.verify(), 1);
+        }
+    }
+
+    private void shapeOutsideInSeveralNumbers() {
         HashSigner x = signedOne();
-        String[] wrong = {
-            "-1 8 2 2 3 2", "2 8 2 2 3 2", "1 0 2 2 3 2", "1 3 2 2 3 2", "1 5 2 2 3 2", "1 10 2 2 3 2", "1 20 2 2 3 2",
-            "1 -4 2 2 3 2", "1 8 0 2 3 2", "1 8 3 2 3 2", "1 8 2 0 3 2", "1 8 2 3 3 2", "1 8 2 2 0 2", "1 8 2 2 5 2",
-            "1 8 2 2 3 0", "1 8 2 2 3 7", "-2147483648 8 2 2 3 2", "1 2147483647 2 2 3 2", "1 8 -2147483648 2 3 2",
-            "1 8 2 2147483647 3 2", "1 8 2 2 -2147483648 2", "1 8 2 2 3 2147483647",
-        };
+        String[] wrong = {"2 5 3 3 5 7", "-1 0 0 0 0 0", "0 4 1 1 0 0", "2 4 1 1 1 7", "4 0 1 1 1 1", "1 2 8 2 3 2"};
         for (String six : wrong) {
             due.is("shape " + six, Help.shape(x, six), HashSigner.OUTSIDE);
         }
-        due.is("refused shapes leave the KEY", x.told(5), 1);
-        due.is("refused shapes leave THE SIGNATURE", x.told(1), x.told(2));
-        due.is("refused shapes leave it right", x.verify(), 1);
+        due.is("verify() behind these", x.verify(), 1);
     }
 
-    private void shapeTakesKeyAndSignature() {
-        for (String six : new String[] {"1 8 2 2 3 2", "0 4 1 1 1 1"}) {
+    /** Promise 6: "There is no KEY then", also behind the very numbers that THE SHAPE had. */
+    private void noKeyBehindShape() {
+        for (String six : new String[] {"1 8 2 2 3 2", "0 4 1 1 1 1", "0 8 2 2 3 2", "1 8 2 2 3 3"}) {
             HashSigner x = signedOne();
             Help.shape(x, six);
-            due.is("told(5) behind shape", x.told(5), 0);
-            due.is("told(1) behind shape", x.told(1), 0);
-            due.is("root(0) behind shape", x.root(0), HashSigner.NONE);
-            due.is("signed(0) behind shape", x.signed(0), HashSigner.NONE);
-            due.is("ledTo(0) behind shape", x.ledTo(0), HashSigner.NONE);
-            due.is("index(0) behind shape", x.index(0), HashSigner.NONE);
-            due.is("sign() behind shape", x.sign(), HashSigner.STATE);
-            due.is("verify() behind shape", x.verify(), HashSigner.STATE);
-            due.is("cut(0) behind shape", x.cut(0), 0);
-            due.is("alter(0, 0) behind shape", x.alter(0, 0), HashSigner.OUTSIDE);
+            due.is("told(5) behind shape " + six, x.told(5), 0);
+            for (int i = 0; i < 17; i++) {
+                due.is("root(" + i + ") behind shape " + six, x.root(i), HashSigner.NONE);
+            }
+            due.is("sign() behind shape " + six, x.sign(), HashSigner.STATE);
+            due.is("signWith(1, 2) behind shape " + six, x.signWith(1, 2), HashSigner.STATE);
+            due.is("verify() behind shape " + six, x.verify(), HashSigner.STATE);
         }
     }
 
-    private void seedRefuses() {
+    /** Promise 6: "There is no SIGNATURE then", also not when there is a KEY again. */
+    private void noSignatureBehindShape() {
+        for (String six : new String[] {"1 8 2 2 3 2", "0 4 1 1 1 1", "0 8 2 2 3 2", "1 8 2 2 3 3"}) {
+            HashSigner x = signedOne();
+            Help.shape(x, six);
+            due.is("told(1) behind shape " + six, x.told(1), 0);
+            due.is("signed(0) behind shape " + six, x.signed(0), HashSigner.NONE);
+            due.is("cut(1) behind shape " + six, x.cut(1), HashSigner.OUTSIDE);
+            due.is("cut(0) behind shape " + six, x.cut(0), 0);
+            due.is("alter(0, 0) behind shape " + six, x.alter(0, 0), HashSigner.OUTSIDE);
+            x.key();
+            due.is("told(1) behind shape " + six + ", key()", x.told(1), 0);
+            due.is("verify() behind shape " + six + ", key()", x.verify(), 0);
+        }
+    }
+
+    /** Promise 7: "OUTSIDE: which is not 0 to 2". */
+    private void seedOutsideWhich() {
         HashSigner x = signedOne();
         String root = Help.root(x);
-        for (int which : new int[] {-1, 3, Integer.MIN_VALUE, Integer.MAX_VALUE}) {
+        for (int which : Help.outside(0, 2)) {
             due.is("seed(" + which + ", ..)", x.seed(which, 1, 2), HashSigner.OUTSIDE);
         }
         due.is("refused seeds leave the KEY", Help.root(x), root);
+        String signed = Help.hex(Help.signatureSlice(x, 0, 8));
         x.key();
-        due.is("refused seeds leave the SEEDS", Help.root(x), root);
+        x.sign();
+        due.is("refused seeds leave SEEDS 0 and 2", Help.root(x), root);
+        due.is("refused seeds leave SEED 1", Help.hex(Help.signatureSlice(x, 0, 8)), signed);
+    }
+
+    /** Promise 7: "There is no KEY then", also behind the very bytes that the SEED had. */
+    private void noKeyBehindSeed() {
+        for (int which = 0; which < 3; which++) {
+            for (String bytes : new String[] {SEEDS.split(" ")[which], "0".repeat(32)}) {
+                HashSigner x = signedOne();
+                due.is("seed(" + which + ", ..)", Help.seed(x, which, bytes), 1);
+                due.is("told(5) behind seed " + which, x.told(5), 0);
+                for (int i = 0; i < 9; i++) {
+                    due.is("root(" + i + ") behind seed " + which, x.root(i), HashSigner.NONE);
+                }
+                due.is("sign() behind seed " + which, x.sign(), HashSigner.STATE);
+                due.is("signWith() behind seed " + which, x.signWith(1, 2), HashSigner.STATE);
+                due.is("verify() behind seed " + which, x.verify(), HashSigner.STATE);
+            }
+        }
     }
 
     private void seedTakesTheKeyAlone() {
@@ -103,42 +170,15 @@ public final class KeyTest {
             HashSigner x = signedOne();
             String led = Help.led(x);
             String index = Help.index(x);
-            int size = x.told(1);
-            due.is("seed(" + which + ", ..)", x.seed(which, 7, 8), 1);
-            due.is("told(5) behind seed", x.told(5), 0);
-            due.is("root(0) behind seed", x.root(0), HashSigner.NONE);
-            due.is("sign() behind seed", x.sign(), HashSigner.STATE);
-            due.is("signWith() behind seed", x.signWith(1, 2), HashSigner.STATE);
-            due.is("verify() behind seed", x.verify(), HashSigner.STATE);
-            due.is("told(1) behind seed", x.told(1), size);
+            String signed = Help.hex(Help.signatureSlice(x, 0, 392));
+            x.seed(which, 7, 8);
+            due.is("told(1) behind seed", x.told(1), 392);
+            due.is("told(2) behind seed", x.told(2), 392);
             due.is("ledTo behind seed", Help.led(x), led);
             due.is("index behind seed", Help.index(x), index);
+            due.is("signed(0) behind seed", Help.twoDigits(x.signed(0)), signed.substring(0, 2));
+            due.is("signed(391) behind seed", Help.twoDigits(x.signed(391)), signed.substring(782));
         }
-    }
-
-    /** Bytes that a small n does not mean are there again when n grows. */
-    private void seedKeepsAllItsBytes() {
-        HashSigner early = new HashSigner();
-        Help.seeds(early, SEEDS);
-        early.key();
-        Help.shape(early, "0 16 1 1 1 1");
-        early.key();
-        HashSigner late = new HashSigner();
-        Help.shape(late, "0 16 1 1 1 1");
-        Help.seeds(late, SEEDS);
-        late.key();
-        due.is("seeds told ahead of the shape", Help.root(early), Help.root(late));
-        HashSigner small = new HashSigner();
-        Help.seeds(small, SEEDS);
-        small.key();
-        String root = Help.root(small);
-        small.seed(0, 0x0011223300000000L, -1);
-        small.seed(2, 0xfedcba9800000000L, -1);
-        small.key();
-        due.is("bytes behind the first n are not meant", Help.root(small), root);
-        small.seed(0, 0x0011223200000000L, -1);
-        small.key();
-        due.is("byte n - 1 is meant", Help.root(small).equals(root) ? 1 : 0, 0);
     }
 
     private void everySeedHasItsPart() {
@@ -152,49 +192,198 @@ public final class KeyTest {
         }
     }
 
-    private void keyAndRoot() {
-        HashSigner x = new HashSigner();
-        Help.shape(x, "0 12 2 2 1 1");
-        Help.seeds(x, SEEDS);
-        due.is("root(0) ahead of key()", x.root(0), HashSigner.NONE);
-        due.is("told(5) ahead of key()", x.told(5), 0);
-        due.is("key()", x.key(), 1);
-        due.is("told(5) behind key()", x.told(5), 1);
-        due.is("how many bytes the ROOT has", Help.root(x).length(), 24);
-        for (int i : new int[] {-1, 12, 15, 16, Integer.MIN_VALUE, Integer.MAX_VALUE}) {
-            due.is("root(" + i + ")", x.root(i), HashSigner.NONE);
+    /** Promise 7: "Z(high, 8) | Z(low, 8)", of numbers at their edges. */
+    private void everyByteOfASeedHasItsPlace() {
+        long[] numbers = {0, 1, -1, Long.MIN_VALUE, Long.MAX_VALUE, 0x0102030405060708L, 0xfffefdfcfbfaf9f8L, 1L << 32};
+        for (int form = 0; form < 2; form++) {
+            for (int i = 0; i < numbers.length; i++) {
+                long high = numbers[i];
+                long low = numbers[(i + 3) % numbers.length];
+                HashSigner x = new HashSigner();
+                Model m = new Model();
+                x.shape(form, 16, 1, 1, 1, 1);
+                m.shape(form, 16, 1, 1, 1, 1);
+                for (int which = 0; which < 3; which++) {
+                    due.is("seed(" + which + ", ..)", x.seed(which, high + which, low), 1);
+                    m.seed(which, high + which, low);
+                }
+                x.key();
+                x.sign();
+                m.key();
+                m.sign();
+                due.is("the ROOT of seeds " + high + ", " + low, Help.root(x), Help.row(m::root));
+                for (int at = 0; at < 64; at++) {
+                    due.is("signed(" + at + ") of seeds " + high + ", " + low, x.signed(at), m.signed(at));
+                }
+            }
         }
-        String root = Help.root(x);
-        x.sign();
-        due.is("key() again", x.key(), 1);
-        due.is("the same ROOT again", Help.root(x), root);
-        due.is("key() leaves THE SIGNATURE", x.told(1), x.told(2));
     }
 
-    private void leafRefuses() {
-        HashSigner two = new HashSigner();
-        Help.shape(two, "0 4 2 2 1 1");
-        int[][] outside = {
-            {-1, 0, 0}, {2, 0, 0}, {0, -1, 0}, {0, 4, 0}, {1, 1, 0}, {1, -1, 0}, {0, 0, -1}, {0, 0, 4}, {1, 0, 4},
-            {Integer.MIN_VALUE, 0, 0}, {Integer.MAX_VALUE, 0, 0}, {0, Integer.MAX_VALUE, 0}, {0, 0, Integer.MAX_VALUE},
-            {0, Integer.MIN_VALUE, 0}, {0, 0, Integer.MIN_VALUE},
-        };
+    /** Promise 8: "THE KEY's ROOT is made: 1", of layer layers - 1. */
+    private void keyIsMade() {
+        for (String six : new String[] {"0 12 2 2 1 1", "1 12 2 1 1 1", "0 4 1 2 1 1", "1 16 1 1 1 1"}) {
+            HashSigner x = new HashSigner();
+            Model m = new Model();
+            int[] s = Help.numbers(six);
+            Help.shape(x, s);
+            m.shape(s[0], s[1], s[2], s[3], s[4], s[5]);
+            due.is("told(5) ahead of key(), " + six, x.told(5), 0);
+            due.is("key(), " + six, x.key(), 1);
+            due.is("told(5) behind key(), " + six, x.told(5), 1);
+            m.key();
+            due.is("the ROOT, " + six, Help.root(x), Help.row(m::root));
+        }
+    }
+
+    /** Promise 8: a KEY that is there is made again: from SEEDS of now, the same from the same. */
+    private void keyAgain() {
+        HashSigner x = signedOne();
+        String root = Help.root(x);
+        due.is("key() again", x.key(), 1);
+        due.is("the same ROOT again", Help.root(x), root);
+        x.seed(0, 0, 0);
+        due.is("key() behind seed", x.key(), 1);
+        due.is("another ROOT", Help.root(x).equals(root) ? 1 : 0, 0);
+        Help.seed(x, 0, SEEDS.split(" ")[0]);
+        due.is("key() behind the SEED of before", x.key(), 1);
+        due.is("the ROOT of before", Help.root(x), root);
+    }
+
+    private void keyLeavesTheRest() {
+        HashSigner x = signedOne();
+        x.seed(0, 3, 3);
+        String led = Help.led(x);
+        String index = Help.index(x);
+        int last = x.signed(391);
+        x.key();
+        due.is("key() leaves THE SIGNATURE's bytes", x.told(1), 392);
+        due.is("key() leaves THE SIGNATURE", x.signed(391), last);
+        due.is("key() leaves ledTo", Help.led(x), led);
+        due.is("key() leaves index", Help.index(x), index);
+        due.is("key() leaves THE TAPE", x.told(0), 0);
+    }
+
+    /** Promise 9: "NONE: there is none such": byte n, also behind a KEY that had it. */
+    private void rootNone() {
+        for (int n : SIZES) {
+            HashSigner x = new HashSigner();
+            Help.shape(x, "0 16 1 1 1 1");
+            x.key();
+            x.shape(0, n, 1, 1, 1, 1);
+            x.key();
+            for (int i : Help.outside(0, n - 1)) {
+                due.is("root(" + i + ") of n " + n, x.root(i), HashSigner.NONE);
+            }
+            for (int i = n; i < 20; i++) {
+                due.is("root(" + i + ") of n " + n, x.root(i), HashSigner.NONE);
+            }
+            for (int i = 0; i < n; i++) {
+                due.is("root(" + i + ") of n " + n + " is a byte", x.root(i) >= 0 && x.root(i) <= 255 ? 1 : 0, 1);
+            }
+        }
+    }
+
+    /** Promise 9: "NONE: no KEY". */
+    private void rootWithoutKey() {
+        HashSigner x = new HashSigner();
+        for (int i = -1; i < 17; i++) {
+            due.is("root(" + i + ") of a new object", x.root(i), HashSigner.NONE);
+        }
+        x.key();
+        x.seed(1, 0, 0);
+        for (int i = -1; i < 17; i++) {
+            due.is("root(" + i + ") behind seed", x.root(i), HashSigner.NONE);
+        }
+    }
+
+    private void leafIs(HashSigner x, int layer, int tree, int u, boolean right) {
+        String name = "leaf(" + layer + ", " + tree + ", " + u + ", 0)";
+        int got = x.leaf(layer, tree, u, 0);
+        due.is(name, got, right ? got & 255 : HashSigner.OUTSIDE);
+    }
+
+    private static HashSigner shaped(int height, int layers) {
+        HashSigner x = new HashSigner();
+        x.shape(1, 8, height, layers, 1, 1);
+        return x;
+    }
+
+    /** Promise 18: "OUTSIDE: layer". */
+    private void leafOutsideLayer() {
+        for (int layers = 1; layers <= 2; layers++) {
+            HashSigner x = shaped(2, layers);
+            for (int layer = 0; layer < layers; layer++) {
+                leafIs(x, layer, 0, 0, true);
+            }
+            for (int layer : Help.outside(0, layers - 1)) {
+                leafIs(x, layer, 0, 0, false);
+            }
+        }
+    }
+
+    /** Promise 18: "tree (0 in the last layer, else below 2^height)". */
+    private void leafOutsideTree() {
+        for (int height = 1; height <= 2; height++) {
+            for (int layers = 1; layers <= 2; layers++) {
+                for (int layer = 0; layer < layers; layer++) {
+                    HashSigner x = shaped(height, layers);
+                    int most = layer == layers - 1 ? 0 : (1 << height) - 1;
+                    for (int tree = 0; tree <= most; tree++) {
+                        leafIs(x, layer, tree, 0, true);
+                    }
+                    for (int tree : Help.outside(0, most)) {
+                        leafIs(x, layer, tree, 0, false);
+                    }
+                }
+            }
+        }
+    }
+
+    /** Promise 18: "u below 2^height". */
+    private void leafOutsideU() {
+        for (int height = 1; height <= 2; height++) {
+            for (int layer = 0; layer < 2; layer++) {
+                HashSigner x = shaped(height, 2);
+                int most = (1 << height) - 1;
+                for (int u = 0; u <= most; u++) {
+                    leafIs(x, layer, 0, u, true);
+                }
+                for (int u : Help.outside(0, most)) {
+                    leafIs(x, layer, 0, u, false);
+                }
+            }
+        }
+    }
+
+    /** Promise 18: "NONE: i is not below n", also where a LEAF of more bytes was there; there is none below 0. */
+    private void leafNone() {
+        for (int n : SIZES) {
+            HashSigner x = new HashSigner();
+            x.shape(0, 16, 1, 2, 1, 1);
+            x.leaf(0, 1, 1, 15);
+            x.shape(0, n, 1, 2, 1, 1);
+            for (int i = 0; i < n; i++) {
+                int got = x.leaf(0, 1, 1, i);
+                due.is("leaf(0, 1, 1, " + i + ") of n " + n, got, got & 255);
+            }
+            for (int i = n; i < 20; i++) {
+                due.is("leaf(0, 1, 1, " + i + ") of n " + n, x.leaf(0, 1, 1, i), HashSigner.NONE);
+            }
+            for (int i : Help.outside(0, n - 1)) {
+                due.is("leaf(0, 1, 1, " + i + ") of n " + n, x.leaf(0, 1, 1, i), HashSigner.NONE);
+            }
+        }
+    }
+
+    private void leafOutsideAheadOfNone() {
+        HashSigner x = shaped(2, 2);
+        int[][] outside = {{-1, 0, 0}, {2, 0, 0}, {0, -1, 0}, {0, 4, 0}, {1, 1, 0}, {0, 0, -1}, {0, 0, 4}, {2, 4, 4}};
         for (int[] p : outside) {
-            String name = "leaf(" + p[0] + ", " + p[1] + ", " + p[2] + ", ";
-            due.is(name + "0)", two.leaf(p[0], p[1], p[2], 0), HashSigner.OUTSIDE);
-            due.is(name + "9)", two.leaf(p[0], p[1], p[2], 9), HashSigner.OUTSIDE);
+            for (int i : new int[] {-1, 8, Integer.MAX_VALUE}) {
+                due.is("leaf(" + p[0] + ", " + p[1] + ", " + p[2] + ", " + i + ")", x.leaf(p[0], p[1], p[2], i),
+                    HashSigner.OUTSIDE);
+            }
         }
-        for (int i : new int[] {4, 5, -1, Integer.MIN_VALUE, Integer.MAX_VALUE}) {
-            due.is("leaf(0, 3, 3, " + i + ")", two.leaf(0, 3, 3, i), HashSigner.NONE);
-        }
-        HashSigner low = new HashSigner();
-        Help.shape(low, "0 4 1 2 1 1");
-        due.is("height 1: leaf(0, 2, 0, 0)", low.leaf(0, 2, 0, 0), HashSigner.OUTSIDE);
-        due.is("height 1: leaf(0, 0, 2, 0)", low.leaf(0, 0, 2, 0), HashSigner.OUTSIDE);
-        due.is("height 1: leaf(0, 1, 1, 4)", low.leaf(0, 1, 1, 4), HashSigner.NONE);
-        HashSigner one = new HashSigner();
-        due.is("one layer: leaf(0, 1, 0, 0)", one.leaf(0, 1, 0, 0), HashSigner.OUTSIDE);
-        due.is("one layer: leaf(1, 0, 0, 0)", one.leaf(1, 0, 0, 0), HashSigner.OUTSIDE);
     }
 
     private void leafNeedsNoKey() {

@@ -87,11 +87,11 @@ final class Model {
     }
 
     int sign() {
-        return keyRoot == null ? -3 : signRand(meant(2));
+        return keyRoot == null ? -3 : signRow(mixed(meant(2)));
     }
 
     int signWith(long high, long low) {
-        return keyRoot == null ? -3 : signRand(Arrays.copyOf(join(z(high, 8), z(low, 8)), n));
+        return keyRoot == null ? -3 : signRow(mixedOf(high, low));
     }
 
     int signed(int i) {
@@ -148,6 +148,23 @@ final class Model {
     int told(int what) {
         int[] all = {tape.length, signature.length, wanted(), len(), n, keyRoot == null ? 0 : 1};
         return what < 0 || what > 5 ? -2 : all[what];
+    }
+
+    void tapeIs(byte[] text) {
+        tape = text;
+    }
+
+    byte[] mixedOf(long high, long low) {
+        return mixed(Arrays.copyOf(join(z(high, 8), z(low, 8)), n));
+    }
+
+    /** What index() tells of an R, with a space between each two. */
+    String numbersOf(byte[] r) {
+        StringBuilder all = new StringBuilder();
+        for (int number : numbers(points(r))) {
+            all.append(all.length() == 0 ? "" : " ").append(number);
+        }
+        return all.toString();
     }
 
     private static int byteOf(byte[] row, int i) {
@@ -347,8 +364,7 @@ final class Model {
         return all;
     }
 
-    private int signRand(byte[] rand) {
-        byte[] r = mixed(rand);
+    private int signRow(byte[] r) {
         found = numbers(points(r));
         int tree = found[0];
         int u = found[1];

@@ -2,9 +2,10 @@ import java.util.Random;
 
 /** All promises: long runs of calls of every kind, each answer held against the model's. */
 public final class RunsTest {
-    /** With those of the last look at THE SIGNATURE, as many as an object is used for. */
-    private static final int CALLS = 400;
-    private static final int LAST_LOOKS = 112;
+    /** As many as an object is used for. */
+    private static final int CALLS = 512;
+    /** From one call on, so many look at THE SIGNATURE; calls of every kind come ahead of them and behind. */
+    private static final int FIRST_READ = 300, READS = 112;
     private static final int[] SIZES = {4, 8, 12, 16};
     private static final int[] ODD = {Integer.MIN_VALUE, Integer.MAX_VALUE, -1, -2, -9, 256, 1 << 16, 600, 601};
 
@@ -30,16 +31,22 @@ public final class RunsTest {
     /** One call in so many is any of all; the others look around in what there is. */
     private void go(int run, int dear) {
         for (int i = 0; i < CALLS && !due.isAnyWrong(); i++) {
-            String name = "run " + run + ", call " + i + ": ";
-            if (random.nextInt(dear) == 0) {
+            String name = "run " + run + ", call " + (i + 1) + ": ";
+            if (i == FIRST_READ) {
+                read(name);
+                i += READS - 1;
+            } else if (random.nextInt(dear) == 0) {
                 change(name);
             } else {
                 look(name);
             }
         }
+    }
+
+    private void read(String name) {
         int from = random.nextInt(m.told(2) + 1);
-        for (int i = from; i < from + LAST_LOOKS; i++) {
-            due.is("run " + run + ": signed(" + i + ")", x.signed(i), m.signed(i));
+        for (int i = from; i < from + READS; i++) {
+            due.is(name + "signed(" + i + ")", x.signed(i), m.signed(i));
         }
     }
 

@@ -1,3 +1,6 @@
+import java.nio.ByteBuffer;
+import java.util.Arrays;
+
 /** Promises 1 to 5: a new object, the tape, its hashes. */
 public final class TapeTest {
     /** How long the text is, its HASH 0 and HASH 1, made outside of Java. */
@@ -22,18 +25,29 @@ public final class TapeTest {
 
     public static void main(String[] args) {
         TapeTest test = new TapeTest();
-        test.newObject();
-        test.feed();
-        test.feedAtTheEnd();
-        test.trim();
+        test.newObjectHasNothing();
+        test.newObjectHasTheShapeAndSeedsAsTold();
+        test.objectsShareNothing();
+        test.feedHasTheHighestByteFirst();
+        test.feedComesBehind();
+        test.feedFull();
+        test.trimKeepsTheFirst();
+        test.trimBelowZero();
+        test.trimAboveWhatItHas();
+        test.trimToNothingAndToAll();
+        test.tapeOutlivesOtherCalls();
+        test.hashOutsideForm();
+        test.hashOfAnEmptyTape();
+        test.hashOfAFullTape();
         test.hashesKnown();
         test.hashesOfEveryLength();
-        test.hashRefuses();
-        test.hashIsKept();
+        test.hashByteNone();
+        test.hashByteIsKept();
         test.due.end();
     }
 
-    private void newObject() {
+    /** Promise 1: "an empty TAPE, no KEY, no SIGNATURE". */
+    private void newObjectHasNothing() {
         HashSigner x = new HashSigner();
         int[] told = {0, 0, 56, 10, 4, 0};
         for (int i = 0; i < told.length; i++) {
@@ -44,20 +58,42 @@ public final class TapeTest {
         due.is("new: signed(0)", x.signed(0), HashSigner.NONE);
         due.is("new: ledTo(0)", x.ledTo(0), HashSigner.NONE);
         due.is("new: index(0)", x.index(0), HashSigner.NONE);
+        due.is("new: trim(1)", x.trim(1), HashSigner.OUTSIDE);
+        due.is("new: cut(1)", x.cut(1), HashSigner.OUTSIDE);
+        due.is("new: alter(0, 0)", x.alter(0, 0), HashSigner.OUTSIDE);
         due.is("new: sign()", x.sign(), HashSigner.STATE);
+        due.is("new: signWith(0, 0)", x.signWith(0, 0), HashSigner.STATE);
+        due.is("new: verify()", x.verify(), HashSigner.STATE);
+    }
+
+    /** Promise 1: "THE SHAPE and SEEDS as told". */
+    private void newObjectHasTheShapeAndSeedsAsTold() {
         HashSigner same = new HashSigner();
         Help.shape(same, "0 4 1 1 1 1");
         Help.seeds(same, "0".repeat(32) + " " + "0".repeat(32) + " " + "0".repeat(32));
-        x.key();
-        same.key();
-        x.sign();
-        same.sign();
-        due.is("new: its root", Help.root(x), Help.root(same));
-        due.is("new: its signature", Help.hex(Help.signatureSlice(x, 0, 56)),
-            Help.hex(Help.signatureSlice(same, 0, 56)));
+        due.is("new: all of it", Help.picture(new HashSigner()), Help.picture(same));
     }
 
-    private void feed() {
+    /** Promise 1: a new object is new, whatever was done with another one. */
+    private void objectsShareNothing() {
+        String picture = Help.picture(new HashSigner());
+        HashSigner other = new HashSigner();
+        HashSigner older = new HashSigner();
+        Help.shape(other, "0 4 1 1 2 2");
+        other.seed(0, 1, 2);
+        other.seed(1, 3, 4);
+        other.seed(2, 5, 6);
+        other.feed(1, 2, 3, 4, 5);
+        other.hash(0);
+        other.key();
+        other.sign();
+        other.verify();
+        due.is("new behind another one: all of it", Help.picture(new HashSigner()), picture);
+        due.is("new ahead of another one: all of it", Help.picture(older), picture);
+    }
+
+    /** Promise 2: "of each number the highest first". */
+    private void feedHasTheHighestByteFirst() {
         HashSigner x = new HashSigner();
         due.is("feed", x.feed(0x01020304, -1, 0, Integer.MIN_VALUE, Integer.MAX_VALUE), 20);
         byte[] tape = {1, 2, 3, 4, -1, -1, -1, -1, 0, 0, 0, 0, -128, 0, 0, 0, 127, -1, -1, -1};
@@ -65,51 +101,149 @@ public final class TapeTest {
         due.is("feed: the bytes", Help.hashed(x), Help.hex(Help.sha256(tape)));
     }
 
-    private void feedAtTheEnd() {
-        HashSigner x = new HashSigner();
-        for (int i = 1; i <= 30; i++) {
-            due.is("feed " + i, x.feed(i, i, i, i, i), 20 * i);
+    /** Promise 2: "come behind THE TAPE": behind each length that still has room. */
+    private void feedComesBehind() {
+        for (int length = 0; length <= 580; length++) {
+            HashSigner x = new HashSigner();
+            Help.feedText(x, length);
+            due.is("feed behind " + length, x.feed(-1, 0, 1, -2, 3), length + 20);
+            due.is("told(0) behind that", x.told(0), length + 20);
+            byte[] tape = Arrays.copyOf(Help.text(length), length + 20);
+            ByteBuffer.wrap(tape, length, 20).putInt(-1).putInt(0).putInt(1).putInt(-2).putInt(3);
+            x.hash(0);
+            due.is("the bytes behind " + length, Help.hashed(x), Help.hex(Help.sha256(tape)));
         }
-        x.hash(0);
-        String full = Help.hashed(x);
-        due.is("feed at 600", x.feed(1, 2, 3, 4, 5), HashSigner.FULL);
-        due.is("told(0) at 600", x.told(0), 600);
-        x.hash(0);
-        due.is("FULL changes nothing", Help.hashed(x), full);
-        x.trim(581);
-        due.is("feed at 581", x.feed(1, 2, 3, 4, 5), HashSigner.FULL);
-        due.is("told(0) at 581", x.told(0), 581);
-        x.trim(580);
-        due.is("feed at 580", x.feed(1, 2, 3, 4, 5), 600);
     }
 
-    private void trim() {
+    /** Promise 2: "FULL": wherever twenty bytes more would be above 600. */
+    private void feedFull() {
+        for (int length = 581; length <= 600; length++) {
+            HashSigner x = new HashSigner();
+            Help.feedText(x, length);
+            due.is("feed at " + length, x.feed(1, 2, 3, 4, 5), HashSigner.FULL);
+            due.is("told(0) at " + length, x.told(0), length);
+            x.hash(0);
+            due.is("the text of " + length + " behind FULL", Help.hashed(x), Help.hex(Help.sha256(Help.text(length))));
+            x.trim(580);
+            due.is("feed at 580 behind FULL", x.feed(1, 2, 3, 4, 5), 600);
+        }
+    }
+
+    /** Promise 3: "THE TAPE keeps its first n bytes: n". */
+    private void trimKeepsTheFirst() {
+        for (int length = 600; length >= 0; length--) {
+            HashSigner x = new HashSigner();
+            Help.feedText(x, 600);
+            due.is("trim(" + length + ")", x.trim(length), length);
+            due.is("told(0) behind trim(" + length + ")", x.told(0), length);
+            x.hash(0);
+            due.is("the bytes behind trim(" + length + ")", Help.hashed(x), Help.hex(Help.sha256(Help.text(length))));
+        }
+    }
+
+    /** Promise 3: "OUTSIDE: n is below 0". */
+    private void trimBelowZero() {
         HashSigner x = new HashSigner();
-        due.is("trim(0) of none", x.trim(0), 0);
+        due.is("trim(-1) of none", x.trim(-1), HashSigner.OUTSIDE);
+        Help.feedText(x, 40);
+        for (int n : new int[] {-1, -2, -40, -256, Integer.MIN_VALUE}) {
+            due.is("trim(" + n + ")", x.trim(n), HashSigner.OUTSIDE);
+        }
+        due.is("told(0) behind these", x.told(0), 40);
+    }
+
+    /** Promise 3: "OUTSIDE: n is above what it has", also where it had as many once. */
+    private void trimAboveWhatItHas() {
+        HashSigner x = new HashSigner();
         due.is("trim(1) of none", x.trim(1), HashSigner.OUTSIDE);
         Help.feedText(x, 40);
-        due.is("trim(40) of 40", x.trim(40), 40);
-        due.is("trim(41) of 40", x.trim(41), HashSigner.OUTSIDE);
-        due.is("trim(-1)", x.trim(-1), HashSigner.OUTSIDE);
-        due.is("trim(least)", x.trim(Integer.MIN_VALUE), HashSigner.OUTSIDE);
-        due.is("trim(most)", x.trim(Integer.MAX_VALUE), HashSigner.OUTSIDE);
-        due.is("told(0) behind refusals", x.told(0), 40);
-        due.is("trim(7)", x.trim(7), 7);
-        due.is("told(0) behind trim(7)", x.told(0), 7);
+        for (int n : new int[] {41, 60, 600, 601, 40 + 256, 40 + 65536, Integer.MAX_VALUE}) {
+            due.is("trim(" + n + ") of 40", x.trim(n), HashSigner.OUTSIDE);
+        }
+        due.is("told(0) behind these", x.told(0), 40);
+        x.trim(7);
+        due.is("trim(8) of 7", x.trim(8), HashSigner.OUTSIDE);
+        due.is("trim(40) of 7", x.trim(40), HashSigner.OUTSIDE);
+        due.is("told(0) behind these", x.told(0), 7);
+    }
+
+    /** Promise 3: the edges that are not OUTSIDE. */
+    private void trimToNothingAndToAll() {
+        HashSigner x = new HashSigner();
+        due.is("trim(0) of none", x.trim(0), 0);
+        Help.feedText(x, 600);
+        due.is("trim(600) of 600", x.trim(600), 600);
+        due.is("trim(0) of 600", x.trim(0), 0);
+        due.is("trim(0) of 0", x.trim(0), 0);
+        due.is("feed behind trim(0)", x.feed(1, 2, 3, 4, 5), 20);
+    }
+
+    /** THE TAPE stays as it is behind calls that do not tell of it. */
+    private void tapeOutlivesOtherCalls() {
+        HashSigner x = new HashSigner();
+        Help.feedText(x, 77);
+        x.hash(1);
+        Help.shape(x, "1 16 2 2 4 6");
+        x.seed(2, 5, 5);
+        x.key();
+        x.signWith(1, 2);
+        x.alter(0, 0);
+        x.verify();
+        x.cut(0);
+        Help.shape(x, "0 4 1 1 1 1");
+        due.is("told(0) behind other calls", x.told(0), 77);
         x.hash(0);
-        due.is("trim keeps the first", Help.hashed(x), Help.hex(Help.sha256(Help.text(7))));
-        due.is("feed behind trim", x.feed(0, 0, 0, 0, 0), 27);
+        due.is("the text behind other calls", Help.hashed(x), Help.hex(Help.sha256(Help.text(77))));
+    }
+
+    /** Promise 4: "OUTSIDE: form". */
+    private void hashOutsideForm() {
+        HashSigner x = new HashSigner();
+        for (int form : Help.outside(0, 1)) {
+            due.is("hash(" + form + ")", x.hash(form), HashSigner.OUTSIDE);
+        }
+        due.is("hashByte(0) behind refused ones alone", x.hashByte(0), HashSigner.NONE);
+        x.hash(1);
+        String kept = Help.hashed(x);
+        x.feed(1, 2, 3, 4, 5);
+        for (int form : Help.outside(0, 1)) {
+            due.is("hash(" + form + ")", x.hash(form), HashSigner.OUTSIDE);
+        }
+        due.is("the HASH behind refused ones", Help.hashed(x), kept);
+    }
+
+    /** Promise 4 of an empty TAPE: one that never had a byte, and one that has none any more. */
+    private void hashOfAnEmptyTape() {
+        HashSigner x = new HashSigner();
+        holdHashes(x, HASHES[0]);
+        Help.feedText(x, 600);
+        x.trim(0);
+        holdHashes(x, HASHES[0]);
+    }
+
+    /** Promise 4 of a full TAPE, again and again. */
+    private void hashOfAFullTape() {
+        HashSigner x = new HashSigner();
+        Help.feedText(x, 600);
+        for (int i = 0; i < 3; i++) {
+            holdHashes(x, HASHES[HASHES.length - 1]);
+        }
+        due.is("told(0) behind hashes of a full TAPE", x.told(0), 600);
     }
 
     private void hashesKnown() {
         for (String[] row : HASHES) {
             HashSigner x = new HashSigner();
             Help.feedText(x, Integer.parseInt(row[0]));
-            due.is("hash(0) of " + row[0], x.hash(0), 32);
-            due.is("HASH 0 of " + row[0], Help.hashed(x), row[1]);
-            due.is("hash(1) of " + row[0], x.hash(1), 32);
-            due.is("HASH 1 of " + row[0], Help.hashed(x), row[2]);
+            holdHashes(x, row);
         }
+    }
+
+    private void holdHashes(HashSigner x, String[] row) {
+        due.is("hash(0) of " + row[0], x.hash(0), 32);
+        due.is("HASH 0 of " + row[0], Help.hashed(x), row[1]);
+        due.is("hash(1) of " + row[0], x.hash(1), 32);
+        due.is("HASH 1 of " + row[0], Help.hashed(x), row[2]);
     }
 
     private void hashesOfEveryLength() {
@@ -124,18 +258,23 @@ public final class TapeTest {
         }
     }
 
-    private void hashRefuses() {
+    /** Promise 5: "NONE": ahead of any hash(), below byte 0, above byte 31. */
+    private void hashByteNone() {
         HashSigner x = new HashSigner();
-        x.hash(1);
-        String kept = Help.hashed(x);
-        x.feed(1, 2, 3, 4, 5);
-        for (int form : new int[] {-1, 2, Integer.MIN_VALUE, Integer.MAX_VALUE}) {
-            due.is("hash(" + form + ")", x.hash(form), HashSigner.OUTSIDE);
+        for (int i = -1; i <= 32; i++) {
+            due.is("hashByte(" + i + ") ahead of any", x.hashByte(i), HashSigner.NONE);
         }
-        due.is("a refused hash changes nothing", Help.hashed(x), kept);
+        x.hash(0);
+        for (int i : Help.outside(0, 31)) {
+            due.is("hashByte(" + i + ")", x.hashByte(i), HashSigner.NONE);
+        }
+        for (int i = 0; i < 32; i++) {
+            due.is("hashByte(" + i + ") is a byte", x.hashByte(i) >= 0 && x.hashByte(i) <= 255 ? 1 : 0, 1);
+        }
     }
 
-    private void hashIsKept() {
+    /** Promise 5: "the HASH that is kept" stays until another one is. */
+    private void hashByteIsKept() {
         HashSigner x = new HashSigner();
         x.hash(0);
         String kept = Help.hashed(x);
@@ -146,9 +285,9 @@ public final class TapeTest {
         x.key();
         x.sign();
         x.verify();
+        x.leaf(0, 1, 1, 1);
         due.is("the HASH kept behind other calls", Help.hashed(x), kept);
-        for (int i : new int[] {-1, 32, 33, Integer.MIN_VALUE, Integer.MAX_VALUE}) {
-            due.is("hashByte(" + i + ")", x.hashByte(i), HashSigner.NONE);
-        }
+        x.hash(1);
+        due.is("another HASH behind hash(1)", Help.hashed(x).equals(kept) ? 1 : 0, 0);
     }
 }
