@@ -15,6 +15,12 @@ final class Help {
     /** Above the most bytes that any row has. */
     private static final int ROW_END = 2000;
 
+    /** Three rows of 16 bytes, no two of which have the same first byte. */
+    static final String SEEDS =
+        "00112233445566778899aabbccddeeff 0f1e2d3c4b5a69788796a5b4c3d2e1f0 fedcba98765432100123456789abcdef";
+    /** How long the text of keyed() is. */
+    static final int TEXT = 33;
+
     private Help() {
     }
 
@@ -62,6 +68,16 @@ final class Help {
 
     static int shape(HashSigner x, int[] s) {
         return x.shape(s[0], s[1], s[2], s[3], s[4], s[5]);
+    }
+
+    /** An object with a shape, those seeds, a text, and the KEY of all that. */
+    static HashSigner keyed(String six) {
+        HashSigner x = new HashSigner();
+        shape(x, six);
+        seeds(x, SEEDS);
+        feedText(x, TEXT);
+        x.key();
+        return x;
     }
 
     static int[] numbers(String spaced) {

@@ -3,8 +3,6 @@ import java.util.Set;
 
 /** Promises 6 to 9 and 18: the shape, the seeds, the key, its root, the leaves. */
 public final class KeyTest {
-    private static final String SEEDS =
-        "00112233445566778899aabbccddeeff 0f1e2d3c4b5a69788796a5b4c3d2e1f0 fedcba98765432100123456789abcdef";
 
     private static final int[] SIZES = {4, 8, 12, 16};
 
@@ -33,6 +31,7 @@ public final class KeyTest {
         test.leafNone();
         test.leafOutsideAheadOfNone();
         test.leafNeedsNoKey();
+        test.leavesBehindSigning();
         test.leavesFollowShapeAndSeeds();
         test.rootOfLeaves();
         test.due.end();
@@ -41,7 +40,7 @@ public final class KeyTest {
     private static HashSigner signedOne() {
         HashSigner x = new HashSigner();
         Help.shape(x, "1 8 2 2 3 2");
-        Help.seeds(x, SEEDS);
+        Help.seeds(x, Help.SEEDS);
         x.key();
         x.sign();
         x.verify();
@@ -102,18 +101,22 @@ public final class KeyTest {
         due.is("verify() behind these", x.verify(), 1);
     }
 
+    private void hasNoKey(String name, HashSigner x) {
+        due.is("told(5) " + name, x.told(5), 0);
+        for (int i = 0; i < 17; i++) {
+            due.is("root(" + i + ") " + name, x.root(i), HashSigner.NONE);
+        }
+        due.is("sign() " + name, x.sign(), HashSigner.STATE);
+        due.is("signWith(1, 2) " + name, x.signWith(1, 2), HashSigner.STATE);
+        due.is("verify() " + name, x.verify(), HashSigner.STATE);
+    }
+
     /** Promise 6: "There is no KEY then", also behind the very numbers that THE SHAPE had. */
     private void noKeyBehindShape() {
         for (String six : new String[] {"1 8 2 2 3 2", "0 4 1 1 1 1", "0 8 2 2 3 2", "1 8 2 2 3 3"}) {
             HashSigner x = signedOne();
             Help.shape(x, six);
-            due.is("told(5) behind shape " + six, x.told(5), 0);
-            for (int i = 0; i < 17; i++) {
-                due.is("root(" + i + ") behind shape " + six, x.root(i), HashSigner.NONE);
-            }
-            due.is("sign() behind shape " + six, x.sign(), HashSigner.STATE);
-            due.is("signWith(1, 2) behind shape " + six, x.signWith(1, 2), HashSigner.STATE);
-            due.is("verify() behind shape " + six, x.verify(), HashSigner.STATE);
+            hasNoKey("behind shape " + six, x);
         }
     }
 
@@ -144,23 +147,17 @@ public final class KeyTest {
         String signed = Help.hex(Help.signatureSlice(x, 0, 8));
         x.key();
         x.sign();
-        due.is("refused seeds leave SEEDS 0 and 2", Help.root(x), root);
+        due.is("refused seeds leave Help.SEEDS 0 and 2", Help.root(x), root);
         due.is("refused seeds leave SEED 1", Help.hex(Help.signatureSlice(x, 0, 8)), signed);
     }
 
     /** Promise 7: "There is no KEY then", also behind the very bytes that the SEED had. */
     private void noKeyBehindSeed() {
         for (int which = 0; which < 3; which++) {
-            for (String bytes : new String[] {SEEDS.split(" ")[which], "0".repeat(32)}) {
+            for (String bytes : new String[] {Help.SEEDS.split(" ")[which], "0".repeat(32)}) {
                 HashSigner x = signedOne();
                 due.is("seed(" + which + ", ..)", Help.seed(x, which, bytes), 1);
-                due.is("told(5) behind seed " + which, x.told(5), 0);
-                for (int i = 0; i < 9; i++) {
-                    due.is("root(" + i + ") behind seed " + which, x.root(i), HashSigner.NONE);
-                }
-                due.is("sign() behind seed " + which, x.sign(), HashSigner.STATE);
-                due.is("signWith() behind seed " + which, x.signWith(1, 2), HashSigner.STATE);
-                due.is("verify() behind seed " + which, x.verify(), HashSigner.STATE);
+                hasNoKey("behind seed " + which, x);
             }
         }
     }
@@ -235,7 +232,7 @@ public final class KeyTest {
         }
     }
 
-    /** Promise 8: a KEY that is there is made again: from SEEDS of now, the same from the same. */
+    /** Promise 8: a KEY that is there is made again: from Help.SEEDS of now, the same from the same. */
     private void keyAgain() {
         HashSigner x = signedOne();
         String root = Help.root(x);
@@ -244,7 +241,7 @@ public final class KeyTest {
         x.seed(0, 0, 0);
         due.is("key() behind seed", x.key(), 1);
         due.is("another ROOT", Help.root(x).equals(root) ? 1 : 0, 0);
-        Help.seed(x, 0, SEEDS.split(" ")[0]);
+        Help.seed(x, 0, Help.SEEDS.split(" ")[0]);
         due.is("key() behind the SEED of before", x.key(), 1);
         due.is("the ROOT of before", Help.root(x), root);
     }
@@ -394,6 +391,24 @@ public final class KeyTest {
         x.key();
         x.sign();
         due.is("a LEAF behind key(), sign()", Help.leaf(x, 0, 0, 1), leaf);
+    }
+
+    /** Promise 18: what key() and sign() make of LEAVES changes none of them, in no tree. */
+    private void leavesBehindSigning() {
+        HashSigner fresh = shaped(2, 2);
+        HashSigner x = shaped(2, 2);
+        x.key();
+        for (int i = 0; i < 40; i++) {
+            x.signWith(i, i);
+        }
+        for (int layer = 0; layer < 2; layer++) {
+            for (int tree = 0; tree < (layer == 1 ? 1 : 4); tree++) {
+                for (int u = 0; u < 4; u++) {
+                    due.is("leaf " + layer + " " + tree + " " + u + " behind signing", Help.leaf(x, layer, tree, u),
+                        Help.leaf(fresh, layer, tree, u));
+                }
+            }
+        }
     }
 
     private void leavesFollowShapeAndSeeds() {

@@ -38,6 +38,8 @@ public final class LastCallsTest {
         test.everyCallIsTheLast();
         test.everyRefusalIsTheLast();
         test.theSameCallAllTheWay();
+        test.feedAllTheWay();
+        test.alterAllTheWay();
         test.anotherKeyAllTheWay();
         test.due.end();
     }
@@ -182,7 +184,8 @@ public final class LastCallsTest {
         for (Call call : List.of(new Call("key", HashSigner::key), new Call("sign", HashSigner::sign),
             new Call("signWith", x -> x.signWith(1, 2)), new Call("verify", HashSigner::verify),
             new Call("hash", x -> x.hash(0)), new Call("seed", x -> x.seed(1, 2, 3)),
-            new Call("shape", x -> x.shape(0, 16, 2, 2, 4, 6)), leaf(7), hashByte(9), root(1), signed(3), ledTo(2),
+            new Call("shape", x -> x.shape(0, 16, 2, 2, 4, 6)), new Call("trim", x -> x.trim(9)),
+            new Call("cut", x -> x.cut(SIZE)), leaf(7), hashByte(9), root(1), signed(3), ledTo(2),
             index(4), told(2))) {
             HashSigner x = new HashSigner();
             answers(x, SETTING);
@@ -191,6 +194,23 @@ public final class LastCallsTest {
             for (int number = SETTING.size() + 2; number <= MOST_CALLS; number++) {
                 due.is("call " + number + ", " + call.name(), call.on(x), first);
             }
+        }
+    }
+
+    private void feedAllTheWay() {
+        HashSigner x = new HashSigner();
+        for (int number = 1; number <= MOST_CALLS; number++) {
+            due.is("call " + number + ", feed", x.feed(1, 2, 3, 4, 5), number <= 30 ? 20 * number : HashSigner.FULL);
+        }
+    }
+
+    private void alterAllTheWay() {
+        HashSigner x = new HashSigner();
+        answers(x, SETTING);
+        x.alter(SIZE - 1, 0);
+        for (int number = SETTING.size() + 2; number <= MOST_CALLS; number++) {
+            due.is("call " + number + ", alter", x.alter(SIZE - 1, number % 256),
+                number == SETTING.size() + 2 ? 0 : (number - 1) % 256);
         }
     }
 

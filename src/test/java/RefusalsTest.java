@@ -32,8 +32,7 @@ public final class RefusalsTest {
     private static HashSigner rich() {
         HashSigner x = new HashSigner();
         Help.shape(x, SIX);
-        Help.seeds(x, "00112233445566778899aabbccddeeff 0f1e2d3c4b5a69788796a5b4c3d2e1f0 "
-            + "fedcba98765432100123456789abcdef");
+        Help.seeds(x, Help.SEEDS);
         Help.feedText(x, 40);
         x.hash(1);
         x.key();

@@ -1,7 +1,5 @@
 /** Promises 10 to 14: signatures, their bytes, altered and cut. */
 public final class SignatureTest {
-    private static final String SEEDS =
-        "8899aabbccddeeff0011223344556677 f0e1d2c3b4a5968778695a4b3c2d1e0f 0123456789abcdeffedcba9876543210";
     private static final String[] SHAPES = {"0 4 1 1 1 1", "1 8 2 2 3 4", "0 12 2 1 4 2", "1 16 1 2 2 6"};
     /** The first of the shapes has so many bytes. */
     private static final int SIZE = 56;
@@ -43,17 +41,8 @@ public final class SignatureTest {
         test.due.end();
     }
 
-    private static HashSigner keyed(String six) {
-        HashSigner x = new HashSigner();
-        Help.shape(x, six);
-        Help.seeds(x, SEEDS);
-        Help.feedText(x, 33);
-        x.key();
-        return x;
-    }
-
     private static HashSigner signedOne() {
-        HashSigner x = keyed(SHAPES[0]);
+        HashSigner x = Help.keyed(SHAPES[0]);
         x.sign();
         return x;
     }
@@ -102,7 +91,7 @@ public final class SignatureTest {
 
     /** Promise 10: "how many bytes". */
     private void signTellsHowMany(String six) {
-        HashSigner x = keyed(six);
+        HashSigner x = Help.keyed(six);
         due.is(six + ": sign()", x.sign(), x.told(2));
         due.is(six + ": told(1)", x.told(1), x.told(2));
         due.is(six + ": verify()", x.verify(), 1);
@@ -112,7 +101,7 @@ public final class SignatureTest {
 
     /** Promise 11: "Likewise". */
     private void signWithTellsHowMany(String six) {
-        HashSigner x = keyed(six);
+        HashSigner x = Help.keyed(six);
         due.is(six + ": signWith()", x.signWith(-5, 6), x.told(2));
         due.is(six + ": told(1)", x.told(1), x.told(2));
         due.is(six + ": verify()", x.verify(), 1);
@@ -122,13 +111,13 @@ public final class SignatureTest {
 
     /** Promise 10: "rand being SEED 2". */
     private void signWithOpenSeedIsSign(String six) {
-        HashSigner x = keyed(six);
+        HashSigner x = Help.keyed(six);
         x.sign();
-        HashSigner y = keyed(six);
-        y.signWith(0x0123456789abcdefL, 0xfedcba9876543210L);
+        HashSigner y = Help.keyed(six);
+        y.signWith(0xfedcba9876543210L, 0x0123456789abcdefL);
         due.is(six + ": signWith(SEED 2)", Help.hex(Help.signatureSlice(y, 0, SIZE)),
             Help.hex(Help.signatureSlice(x, 0, SIZE)));
-        HashSigner other = keyed(six);
+        HashSigner other = Help.keyed(six);
         other.signWith(5, 6);
         due.is(six + ": another rand, another R", Help.hex(Help.signatureSlice(other, 0, 4))
             .equals(Help.hex(Help.signatureSlice(x, 0, 4))) ? 1 : 0, 0);
@@ -137,13 +126,13 @@ public final class SignatureTest {
     /** Promise 11: "the first n bytes of Z(high, 8) | Z(low, 8)". */
     private void signWithMeansTheFirstN(String six) {
         int n = Help.numbers(six)[1];
-        HashSigner zero = keyed(six);
+        HashSigner zero = Help.keyed(six);
         zero.signWith(0, 0);
         String r = Help.hex(Help.signatureSlice(zero, 0, n));
         for (int at = 0; at < 16; at++) {
             byte[] rand = new byte[16];
             rand[at] = 1;
-            HashSigner x = keyed(six);
+            HashSigner x = Help.keyed(six);
             x.signWith(Help.high(Help.hex(rand)), Help.low(Help.hex(rand)));
             due.is(six + ": byte " + at + " of rand is meant",
                 Help.hex(Help.signatureSlice(x, 0, n)).equals(r) ? 0 : 1, at < n ? 1 : 0);
@@ -185,7 +174,7 @@ public final class SignatureTest {
         x.signWith(3, 3);
         due.is("signWith(3, 3) makes another one", Help.signature(x).equals(bytes) ? 1 : 0, 0);
         x.cut(5);
-        due.is("signWith() behind cut(5)", x.signWith(0x0123456789abcdefL, 0), SIZE);
+        due.is("signWith() behind cut(5)", x.signWith(0xfedcba9876543210L, 0), SIZE);
         due.is("its bytes", Help.signature(x), bytes);
     }
 
@@ -218,7 +207,7 @@ public final class SignatureTest {
     }
 
     private void signedNoneWithoutSignature() {
-        HashSigner x = keyed(SHAPES[0]);
+        HashSigner x = Help.keyed(SHAPES[0]);
         for (int i = -1; i <= SIZE; i++) {
             due.is("signed(" + i + ") ahead of any", x.signed(i), HashSigner.NONE);
         }
@@ -234,7 +223,7 @@ public final class SignatureTest {
     }
 
     private void signedNoneBehindALongerOne() {
-        HashSigner x = keyed("0 16 2 2 4 6");
+        HashSigner x = Help.keyed("0 16 2 2 4 6");
         x.sign();
         due.is("signed(1679) of 1680", x.signed(1679) >= 0 ? 1 : 0, 1);
         due.is("signed(1680) of 1680", x.signed(1680), HashSigner.NONE);
@@ -248,7 +237,7 @@ public final class SignatureTest {
     }
 
     private void signedIsAByte() {
-        HashSigner x = keyed("1 16 1 1 4 6");
+        HashSigner x = Help.keyed("1 16 1 1 4 6");
         x.sign();
         for (int i = 0; i < 400; i++) {
             int b = x.signed(i);
@@ -267,7 +256,7 @@ public final class SignatureTest {
     }
 
     private void alterOutsideWithoutSignature() {
-        HashSigner x = keyed(SHAPES[0]);
+        HashSigner x = Help.keyed(SHAPES[0]);
         for (int i = -1; i <= SIZE; i++) {
             due.is("alter(" + i + ", 0) ahead of any", x.alter(i, 0), HashSigner.OUTSIDE);
         }
@@ -362,7 +351,7 @@ public final class SignatureTest {
     }
 
     private void cutWithoutSignature() {
-        HashSigner x = keyed(SHAPES[0]);
+        HashSigner x = Help.keyed(SHAPES[0]);
         due.is("cut(0) ahead of any", x.cut(0), 0);
         due.is("cut(1) ahead of any", x.cut(1), HashSigner.OUTSIDE);
         due.is("cut(56) ahead of any", x.cut(SIZE), HashSigner.OUTSIDE);

@@ -25,8 +25,6 @@ public final class TermsTest {
     };
     private static final int[][] RANGES = {{0, 1}, {4, 16}, {1, 2}, {1, 2}, {1, 4}, {1, 6}};
     private static final int[] SIZES = {4, 8, 12, 16};
-    private static final String SEEDS =
-        "00112233445566778899aabbccddeeff 0f1e2d3c4b5a69788796a5b4c3d2e1f0 fedcba98765432100123456789abcdef";
 
     private final Due due = new Due();
 
@@ -218,7 +216,7 @@ public final class TermsTest {
             x.shape(1, n, 1, 1, 1, 1);
             x.key();
             x.sign();
-            due.is("SEEDS at first, n " + n, seen(x), seen(told));
+            due.is("Help.SEEDS at first, n " + n, seen(x), seen(told));
         }
     }
 
@@ -238,10 +236,10 @@ public final class TermsTest {
     /** "of which the first n are meant". */
     private void theFirstBytesOfSeedsAreMeant() {
         for (int n : SIZES) {
-            String seen = seen(keyed(n, SEEDS));
+            String seen = seen(keyed(n, Help.SEEDS));
             for (int which = 0; which < 3; which++) {
                 for (int at = 0; at < 16; at++) {
-                    StringBuilder other = new StringBuilder(SEEDS);
+                    StringBuilder other = new StringBuilder(Help.SEEDS);
                     int digit = 33 * which + 2 * at;
                     other.setCharAt(digit, other.charAt(digit) == '0' ? '1' : '0');
                     due.is("n " + n + ": another byte " + at + " of SEED " + which + " is meant",
@@ -251,16 +249,20 @@ public final class TermsTest {
         }
     }
 
-    /** "also where n has become another one since they were told". */
+    /** "also where n has become another one since they were told", and one more in between. */
     private void seedsToldUnderAnotherN() {
         for (int before : SIZES) {
-            for (int n : SIZES) {
-                HashSigner x = keyed(before, SEEDS);
-                x.verify();
-                x.shape(1, n, 1, 1, 1, 1);
-                x.key();
-                x.sign();
-                due.is("SEEDS told under n " + before + ", meant under n " + n, seen(x), seen(keyed(n, SEEDS)));
+            for (int between : SIZES) {
+                for (int n : SIZES) {
+                    HashSigner x = keyed(before, Help.SEEDS);
+                    x.shape(1, between, 1, 1, 1, 1);
+                    x.key();
+                    x.shape(1, n, 1, 1, 1, 1);
+                    x.key();
+                    x.sign();
+                    due.is("Help.SEEDS told under n " + before + ", then n " + between + ", meant under n " + n, seen(x),
+                        seen(keyed(n, Help.SEEDS)));
+                }
             }
         }
     }

@@ -1,7 +1,5 @@
 /** Promises 15 to 17 and 19: signatures verified, where they led, their numbers, and what is told. */
 public final class VerifyTest {
-    private static final String SEEDS =
-        "8899aabbccddeeff0011223344556677 f0e1d2c3b4a5968778695a4b3c2d1e0f 0123456789abcdeffedcba9876543210";
     private static final String[] SHAPES = {"0 4 1 1 1 1", "1 8 2 2 3 4", "0 12 2 1 4 2", "1 16 1 2 2 6"};
 
     private final Due due = new Due();
@@ -38,17 +36,8 @@ public final class VerifyTest {
         test.due.end();
     }
 
-    private static HashSigner keyed(String six) {
-        HashSigner x = new HashSigner();
-        Help.shape(x, six);
-        Help.seeds(x, SEEDS);
-        Help.feedText(x, 33);
-        x.key();
-        return x;
-    }
-
     private static HashSigner signedOne(String six) {
-        HashSigner x = keyed(six);
+        HashSigner x = Help.keyed(six);
         x.sign();
         return x;
     }
@@ -84,10 +73,10 @@ public final class VerifyTest {
         int[] s = Help.numbers(six);
         m.shape(s[0], s[1], s[2], s[3], s[4], s[5]);
         for (int i = 0; i < 3; i++) {
-            String seed = SEEDS.split(" ")[i];
+            String seed = Help.SEEDS.split(" ")[i];
             m.seed(i, Help.high(seed), Help.low(seed));
         }
-        m.tapeIs(Help.text(33));
+        m.tapeIs(Help.text(Help.TEXT));
         m.key();
         m.sign();
         return m;
@@ -128,7 +117,7 @@ public final class VerifyTest {
     }
 
     private void verifyOfNoBytes(String six) {
-        HashSigner x = keyed(six);
+        HashSigner x = Help.keyed(six);
         due.is(six + ": verify() ahead of any SIGNATURE", x.verify(), 0);
         due.is(six + ": ledTo(0) behind that", x.ledTo(0), HashSigner.NONE);
         due.is(six + ": index(0) behind that", x.index(0), HashSigner.NONE);
@@ -161,7 +150,7 @@ public final class VerifyTest {
         x.seed(0, 1, 1);
         x.key();
         due.is("verify() against the KEY of another SEED 0", x.verify(), 0);
-        Help.seed(x, 0, SEEDS.split(" ")[0]);
+        Help.seed(x, 0, Help.SEEDS.split(" ")[0]);
         x.key();
         due.is("verify() against the KEY of before", x.verify(), 1);
     }
@@ -357,7 +346,7 @@ public final class VerifyTest {
         x.verify();
         due.is("verify() finds those of signWith()", Help.index(x), told);
         x.trim(0);
-        Help.feedText(x, 33);
+        Help.feedText(x, Help.TEXT);
         x.sign();
         due.is("sign() finds those of before", Help.index(x), signed);
     }
