@@ -1,6 +1,21 @@
+import java.util.HexFormat;
+
 /** Promises 15 to 17 and 19: signatures verified, where they led, their numbers, and what is told. */
 public final class VerifyTest {
     private static final String[] SHAPES = {"0 4 1 1 1 1", "1 8 2 2 3 4", "0 12 2 1 4 2", "1 16 1 2 2 6"};
+
+    /**
+     * Of SHAPE 0, n, 1, 1, 1, 1, SEEDS of 0s and an empty text: n, a row in place of THE SIGNATURE's last n bytes, and
+     * the row to which it leads then. Searched for outside of Java: of n 4 it differs from the ROOT in one byte alone,
+     * of the others the first or the last four bytes are the ROOT's.
+     */
+    private static final String[] NEARLY_RIGHT = {
+        "4 16b9e300 7bbad516", "4 52814300 cc10d516", "4 a7185500 ccba7816", "4 c57fc100 ccbad5ce",
+        "8 1cfa194500000000 3ed26d15df8f438b", "8 a450a84300000000 f7ac1f4d2b07bf49",
+        "12 7d8b51a20000000000000000 dbc74b6f353c50904c2b6598", "12 176de5330100000000000000 f637731d027df64c9cebc973",
+        "16 0196428c020000000000000000000000 e6c4a7a307ff3c0782a973f00fe4f9e3",
+        "16 1f3ff35c000000000000000000000000 074c1f2b05dbc70ee86087537d4dc943",
+    };
 
     private final Due due = new Due();
 
@@ -19,6 +34,7 @@ public final class VerifyTest {
             test.ledToStaysWhereBytesAreMissing(SHAPES[i]);
             test.indexStaysWhereBytesAreMissing(SHAPES[i]);
         }
+        test.verifyLooksAtEveryByte();
         test.verifyOfAnotherKey();
         test.ledToNone();
         test.ledToAheadOfAny();
@@ -143,6 +159,33 @@ public final class VerifyTest {
         x.trim(0);
         x.sign();
         due.is(six + ": verify() of an empty text", x.verify(), 1);
+    }
+
+    /** Promise 15: it "leads to THE KEY's ROOT" only if each byte is the ROOT's. */
+    private void verifyLooksAtEveryByte() {
+        for (String nearly : NEARLY_RIGHT) {
+            String[] parts = nearly.split(" ");
+            int n = Integer.parseInt(parts[0]);
+            HashSigner x = new HashSigner();
+            x.shape(0, n, 1, 1, 1, 1);
+            x.key();
+            x.sign();
+            byte[] last = HexFormat.of().parseHex(parts[1]);
+            for (int i = 0; i < n; i++) {
+                x.alter(x.told(1) - n + i, last[i] & 255);
+            }
+            due.is("verify() that leads to " + parts[2], x.verify(), 0);
+            due.is("ledTo behind that", Help.led(x), parts[2]);
+            due.is("how many bytes are the ROOT's", same(Help.led(x), Help.root(x)), n == 4 ? 3 : 4);
+        }
+    }
+
+    private static int same(String led, String root) {
+        int same = 0;
+        for (int at = 0; at + 2 <= led.length() && at + 2 <= root.length(); at += 2) {
+            same += led.regionMatches(at, root, at, 2) ? 1 : 0;
+        }
+        return same;
     }
 
     private void verifyOfAnotherKey() {
