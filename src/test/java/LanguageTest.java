@@ -10,6 +10,7 @@ import com.sun.source.tree.NewArrayTree;
 import com.sun.source.tree.NewClassTree;
 import com.sun.source.tree.Tree;
 import com.sun.source.tree.Tree.Kind;
+import com.sun.source.tree.TypeCastTree;
 import com.sun.source.tree.VariableTree;
 import com.sun.source.util.JavacTask;
 import com.sun.source.util.SourcePositions;
@@ -34,6 +35,12 @@ public final class LanguageTest extends TreePathScanner<Void, Void> {
     private static final int MOST_PARAMETERS = 7, MOST_LINES = 60, MOST_DEPTH = 8, MOST_CLASSES = 12, MOST_FIELDS = 20;
     private static final Set<Kind> FORBIDDEN = EnumSet.of(Kind.LAMBDA_EXPRESSION, Kind.MEMBER_REFERENCE, Kind.THROW,
         Kind.TRY, Kind.CATCH, Kind.SYNCHRONIZED, Kind.ASSERT, Kind.IMPORT, Kind.PACKAGE, Kind.ANNOTATION);
+    /** Allowed with care: the program does without them, so that there is nothing to take care of. */
+    private static final Set<Kind> NEEDLESS = EnumSet.of(Kind.WHILE_LOOP, Kind.DO_WHILE_LOOP, Kind.STRING_LITERAL,
+        Kind.NULL_LITERAL, Kind.INSTANCE_OF, Kind.DOUBLE_LITERAL, Kind.FLOAT_LITERAL);
+    /** Of what rule 3 allows, all that the program takes beside its own classes. */
+    private static final Set<String> TYPES =
+        Set.of("int", "long", "byte", "boolean", "void", "int[]", "long[]", "byte[]", "boolean[]");
     /** Of what rule 4 allows, all that the program takes. */
     private static final Set<String> LIBRARY = Set.of("Math.max", "System.arraycopy");
     private static final Set<String> CONSTANTS =
@@ -42,6 +49,10 @@ public final class LanguageTest extends TreePathScanner<Void, Void> {
     private final Due due = new Due();
     /** By name alone: methods that share a name count as one, which makes the ways longer, never shorter. */
     private final Map<String, Set<String>> calls = new TreeMap<>();
+    private final Map<String, Tree> types = new TreeMap<>();
+    private final Set<String> ownClasses = new TreeSet<>();
+    /** Methods of classes that others extend. */
+    private final Set<String> openMethods = new TreeSet<>();
     private final CompilationUnitTree unit;
     private final SourcePositions positions;
     private int classes;
@@ -59,6 +70,8 @@ public final class LanguageTest extends TreePathScanner<Void, Void> {
             LanguageTest test = new LanguageTest(unit, Trees.instance(task).getSourcePositions());
             test.scan(unit, null);
             test.classesAndCalls();
+            test.typesAreAllowed();
+            test.constructorsCallNothingOpen();
             test.due.end();
         }
     }
@@ -81,7 +94,7 @@ public final class LanguageTest extends TreePathScanner<Void, Void> {
 
     @Override
     public Void scan(Tree tree, Void nothing) {
-        if (tree != null && FORBIDDEN.contains(tree.getKind())) {
+        if (tree != null && (FORBIDDEN.contains(tree.getKind()) || NEEDLESS.contains(tree.getKind()))) {
             holds("no " + tree.getKind(), tree, false);
         }
         return super.scan(tree, nothing);
@@ -90,6 +103,7 @@ public final class LanguageTest extends TreePathScanner<Void, Void> {
     @Override
     public Void visitClass(ClassTree type, Void nothing) {
         classes++;
+        ownClasses.add(type.getSimpleName().toString());
         boolean outermost = around(Kind.CLASS) == null;
         holds("rule 2: static", type, outermost || type.getModifiers().getFlags().contains(Modifier.STATIC));
         holds("rule 2: not in a method", type, around(Kind.METHOD) == null);
@@ -106,6 +120,7 @@ public final class LanguageTest extends TreePathScanner<Void, Void> {
     @Override
     public Void visitVariable(VariableTree field, Void nothing) {
         Set<Modifier> flags = field.getModifiers().getFlags();
+        types.put(String.valueOf(field.getType()), field);
         if (flags.contains(Modifier.STATIC)) {
             boolean array = field.getType().getKind() == Kind.ARRAY_TYPE;
             holds("rule 5: final", field, flags.contains(Modifier.FINAL));
@@ -119,6 +134,12 @@ public final class LanguageTest extends TreePathScanner<Void, Void> {
     @Override
     public Void visitMethod(MethodTree method, Void nothing) {
         calls.computeIfAbsent(method.getName().toString(), name -> new TreeSet<>());
+        if (method.getReturnType() != null) {
+            types.put(method.getReturnType().toString(), method);
+        }
+        if (around(Kind.CLASS) instanceof ClassTree type && !type.getModifiers().getFlags().contains(Modifier.FINAL)) {
+            openMethods.add(method.getName().toString());
+        }
         long first = unit.getLineMap().getLineNumber(positions.getStartPosition(unit, method));
         long last = unit.getLineMap().getLineNumber(Math.max(positions.getEndPosition(unit, method), 1));
         holds("rule 11: parameters", method, method.getParameters().size() <= MOST_PARAMETERS);
@@ -141,10 +162,16 @@ public final class LanguageTest extends TreePathScanner<Void, Void> {
             holds("rule 4: " + select, call, LIBRARY.contains(select.toString()));
             name = select.toString();
         }
-        if (around(Kind.METHOD) instanceof MethodTree method) {
-            calls.computeIfAbsent(method.getName().toString(), key -> new TreeSet<>()).add(name);
-        }
+        // What stands beside a field is carried out with the constructor.
+        String caller = around(Kind.METHOD) instanceof MethodTree method ? method.getName().toString() : "<init>";
+        calls.computeIfAbsent(caller, key -> new TreeSet<>()).add(name);
         return super.visitMethodInvocation(call, nothing);
+    }
+
+    @Override
+    public Void visitTypeCast(TypeCastTree cast, Void nothing) {
+        holds("rule 6: a cast to a number", cast, cast.getType().getKind() == Kind.PRIMITIVE_TYPE);
+        return super.visitTypeCast(cast, nothing);
     }
 
     private static boolean isLibrary(String name) {
@@ -178,6 +205,19 @@ public final class LanguageTest extends TreePathScanner<Void, Void> {
         for (String name : calls.keySet()) {
             int depth = depthOf(name, new TreeSet<>());
             due.is("rules 8 and 11: calls that stand open from " + name, depth <= MOST_DEPTH ? 1 : 0, 1);
+        }
+    }
+
+    private void typesAreAllowed() {
+        for (String name : types.keySet()) {
+            holds("rule 3: " + name, types.get(name), TYPES.contains(name) || ownClasses.contains(name));
+        }
+    }
+
+    private void constructorsCallNothingOpen() {
+        for (String name : calls.getOrDefault("<init>", Set.of())) {
+            due.is("rule 12: a constructor calls " + name + ", which others could override",
+                openMethods.contains(name) ? 1 : 0, 0);
         }
     }
 
